@@ -119,7 +119,7 @@ public final class DeviceTests {
 
     private static void pulses() {
         BENCH.part("promise 8, p");
-        ChipMap x = BENCH.chip("@01{Ap1:0=3;Bp3:2;}@02{Cw0:0;}");
+        ChipMap x = BENCH.chip("@01{Ap1:0=3;Bp3:2;}@02{Cp0:0;}");
         for (int i = 0; i < 3; i++) {
             BENCH.due("a value at RESET has no x", x.busRead(1), 3);
         }
@@ -137,6 +137,11 @@ public final class DeviceTests {
         BENCH.due("a new x lasts two READS again", x.busRead(1), 2);
         BENCH.due("the second", x.busRead(1), 2);
         BENCH.due("over", x.busRead(1), 0);
+        x.busWrite(1, 2);
+        x.reset();
+        for (int i = 0; i < 3; i++) {
+            BENCH.due("the x of before the RESET is forgotten", x.busRead(1), 3);
+        }
     }
 
     private static void banks() {

@@ -144,6 +144,23 @@ public final class MapTests {
         }
         BENCH.due("trace", x.trace(0, 0), -1);
         BENCH.due("put", x.put(0, 9), 0);
+        compileForgetsTheOldMap();
+    }
+
+    private static void compileForgetsTheOldMap() {
+        ChipMap x = BENCH.chip("@01{Aw3:0=f;Bo7:4=f;Cc11:8=f;Ds15:12=f;}@02{Et3:0=f;Fp7:4=f;}A<A;A<B;");
+        BENCH.due("compile", Bench.compile(x, "@01{Cp3:0;Dr7:4;Ew11:8;}@02{Aw3:0;Bw7:4;}"), 2);
+        BENCH.due("no F", x.field(5, 0), -1);
+        BENCH.due("RESET", x.busRead(1), 0);
+        BENCH.due("RESET", x.busRead(2), 0);
+        BENCH.due("no rules", x.busWrite(1, 0xFFFF), 0);
+        BENCH.due("no rules", x.busWrite(2, 0xFFFF), 0);
+        BENCH.due("p and w", x.busRead(1), 0xF0F);
+        BENCH.due("two w", x.busRead(2), 0xFF);
+        BENCH.due("the p is still there", x.busRead(1), 0xF0F);
+        BENCH.due("the p is over", x.busRead(1), 0xF00);
+        BENCH.due("its word has the w alone", x.put(2, 1), 1);
+        BENCH.traceDue(x, 0, 1, 1, 0xF01);
     }
 
     private static void characters() {
@@ -170,6 +187,26 @@ public final class MapTests {
         BENCH.faultDue("@01{Aw1:000;}", 1, 10);
         BENCH.faultDue("@01{Aw1:0=00000;}", 1, 14);
         BENCH.faultDue("@01{Aw1:0=F;}", 1, 10);
+        BENCH.faultDue("@1{Aw0:0;}", 1, 2);
+        BENCH.faultDue("@{Aw0:0;}", 1, 1);
+        BENCH.faultDue("@01?{Aw0:0;}", 1, 4);
+        BENCH.faultDue("@01?A1{Aw0:0;}", 1, 5);
+        BENCH.faultDue("@01?A{Aw0:0;}", 1, 5);
+        BENCH.faultDue("@01?A={Aw0:0;}", 1, 6);
+        BENCH.faultDue("@01{w0:0;}", 1, 4);
+        BENCH.faultDue("@01{A0:0;}", 1, 5);
+        BENCH.faultDue("@01{A}", 1, 5);
+        BENCH.faultDue("@01{Aw}", 1, 6);
+        BENCH.faultDue("@01{Aw:0;}", 1, 6);
+        BENCH.faultDue("@01{Aw1;}", 1, 7);
+        BENCH.faultDue("@01{Aw1:;}", 1, 8);
+        BENCH.faultDue("@01{Aw1:}", 1, 8);
+        BENCH.faultDue("@01{Aw1:0=;}", 1, 10);
+        BENCH.faultDue("@01{Aw1:0;}<A;", 1, 11);
+        BENCH.faultDue("@01{Aw1:0;}A;", 1, 12);
+        BENCH.faultDue("@01{Aw1:0;}AA;", 1, 12);
+        BENCH.faultDue("@01{Aw1:0;}A<;", 1, 13);
+        BENCH.faultDue("@01{Aw1:0;}A&A=;", 1, 15);
         BENCH.faultDue("@01{Aw1:0;};", 1, 11);
         BENCH.faultDue("@01{Aw1:0;}A>A;", 1, 12);
         BENCH.faultDue("@01{Aw1:0;}A<A=1;", 1, 14);

@@ -122,6 +122,16 @@ public final class ScriptTests {
         steps(x, GO, 0, 4, PUT, 2, 1, GO, 0, 4, PUT, 0, 1, PUT, 1, 1);
         // Step 4 breaks rule 0 from step 0, rule 1 from step 2; on the third way it breaks none.
         checkDue(x, 5, 8, 1);
+        steps(x, GO, 0, 3, PUT, 2, 0, GO, 0, 5, PUT, 2, 1, PUT, 1, 0, PUT, 1, 1);
+        // The way over step 3 breaks rule 1, the one over step 2 rule 0.
+        checkDue(x, 6, 7, 1);
+        x = BENCH.chip("@01{Aw1:0;Bw3:2;Cw5:4;}A<B;B&C=1;");
+        steps(x, GO, 0, 3, PUT, 0, 1, GO, 0, 4, PUT, 2, 1, PUT, 1, 1);
+        checkDue(x, 5, 9, 1);
+        x = BENCH.chip("@01{Aw1:0;Bw3:2;Cw5:4;}B&C=1;A<B;");
+        steps(x, PUT, 2, 1, GO, 0, 3, PUT, 2, 0, PUT, 1, 1);
+        // The way that comes first to step 3 breaks rule 1, the later one rule 0.
+        checkDue(x, 4, 5, 1);
         steps(x, GO, 0, 2, PUT, 1, 1, PUT, 1, 2);
         checkDue(x, 2, 3, 1);
         steps(x, PUT, 2, 1, PUT, 1, 1, PUT, 1, 1);
@@ -251,6 +261,12 @@ public final class ScriptTests {
         steps(x, GO, 0, 40, PUT, 0, 12);
         BENCH.due("beyond the last one", x.run(1), 0);
         BENCH.due("A", x.field(0, 3), 5);
+        ChipMap y = BENCH.chip("@01{Aw1:0;Bw3:2;}@02?A=1{Cr3:0;}B<A;");
+        y.step(PUT, 0, 0);
+        y.step(FETCH, 2, 0);
+        y.step(PUT, 1, 1);
+        BENCH.due("a FETCH that is refused", y.run(0), 2);
+        BENCH.due("it ends there", y.field(1, 3), 0);
         x.reset();
         steps(x, PUT, 0, 3, PUT, 1, 1, PUT, 0, 0, END, 0, 0);
         BENCH.due("run", x.run(0), 0);
