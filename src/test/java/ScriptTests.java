@@ -14,6 +14,7 @@ public final class ScriptTests {
         checkTellsTheLeast();
         checkLeavesTheDevice();
         situations();
+        situationsOfALargeMap();
         limitOfSituations();
         foundAnswers();
         running();
@@ -176,6 +177,29 @@ public final class ScriptTests {
         x = BENCH.chip("@01{Ao1:0;}@02{Bo15:0;}");
         steps(x, PUT, 0, 1, PUT, 1, 65535, PUT, 0, 0, PUT, 1, 0, GO, 0, 0);
         checkDue(x, 0, 6, 0);
+    }
+
+    private static void situationsOfALargeMap() {
+        StringBuilder tape = new StringBuilder();
+        for (int r = 0; r < 16; r++) {
+            tape.append("@f").append(Integer.toHexString(r)).append('{').append((char) ('A' + r)).append("o15:0=8000;}");
+        }
+        ChipMap x = BENCH.chip(tape + "A<P;P!O;");
+        for (int r = 0; r < 16; r++) {
+            x.step(PUT, r, 65535);
+        }
+        for (int r = 0; r < 16; r++) {
+            x.step(PUT, r, 0);
+        }
+        x.step(GO, 0, 0);
+        // 33 steps and the END; the second round is the first one again, when all have 65535.
+        checkDue(x, 0, 34 + 16, 0);
+        x.step(PUT, 14, 1);
+        x.step(PUT, 15, 1);
+        x.step(PUT, 15, 2);
+        BENCH.due("check", x.check(), 36);
+        BENCH.due("found(1)", x.found(1), 2);
+        BENCH.due("the device stays", x.field(15, 3), 0x8000);
     }
 
     private static void limitOfSituations() {
