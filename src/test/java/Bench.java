@@ -24,6 +24,10 @@ final class Bench {
         due(call, got ? 1 : 0, want ? 1 : 0);
     }
 
+    int asked() {
+        return asked;
+    }
+
     /** Types a text in pieces of at most 8 characters; false as soon as a piece is refused. */
     static boolean type(ChipMap x, String text) {
         for (int from = 0; from < text.length(); from += 8) {
@@ -72,6 +76,16 @@ final class Bench {
         due("typing " + tape, type(x, tape), true);
         compile(x);
         due("fault(0) of " + tape, x.fault(0), 0);
+        return x;
+    }
+
+    /** A tape without a fault: how many registers it has. */
+    ChipMap goodDue(String tape, int registers) {
+        ChipMap x = new ChipMap();
+        due("typing " + tape, type(x, tape), true);
+        due("compile of " + tape, compile(x), registers);
+        due("fault(0) of " + tape, x.fault(0), 0);
+        due("fault(1) of " + tape, x.fault(1), 0);
         return x;
     }
 

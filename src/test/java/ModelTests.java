@@ -5,12 +5,13 @@ public final class ModelTests {
     private static final Bench BENCH = new Bench();
     private static final Random RANDOM = new Random(20261115);
     private static final int[] checks = new int[3];
+    private static final int MOST_CALLS = 200;
 
     public static void main(String[] args) {
         for (int i = 0; i < 4000; i++) {
             faults(i);
         }
-        for (int i = 0; i < 600; i++) {
+        for (int i = 0; i < 4000; i++) {
             calls(i);
         }
         System.out.println("checks: " + checks[0] + " told none, " + checks[1] + " a step, " + checks[2] + " too many");
@@ -108,13 +109,23 @@ public final class ModelTests {
             model = new Model(tape);
         }
         ChipMap x = BENCH.chip(tape);
-        for (int n = 0; n < 200; n++) {
+        int before = BENCH.asked();
+        // One turn makes at most some 90 calls; with the typing and the last look all stay under 512.
+        for (int n = 0; n < MOST_CALLS && BENCH.asked() - before < MOST_CALLS; n++) {
             BENCH.part("run " + i + ", call " + n + " with " + tape);
             oneCall(x, model);
-            if (n % 3 == 0) {
-                compareAll(x, model);
-            }
+            lookSomewhere(x, model);
         }
+        compareAll(x, model);
+    }
+
+    private static void lookSomewhere(ChipMap x, Model model) {
+        int what = up(7) - 1;
+        BENCH.due("state(" + what + ")", x.state(what), model.state(what));
+        int f = someField(model);
+        BENCH.due("field(" + f + ", " + what + ")", x.field(f, what), model.field(f, what));
+        int k = up(up(2) == 0 ? 4 : 70);
+        BENCH.due("trace(" + k + ", " + what + ")", x.trace(k, what), model.trace(k, what));
     }
 
     private static int someField(Model model) {
@@ -248,12 +259,10 @@ public final class ModelTests {
             BENCH.due("field(" + f + ", 4)", x.field(f, 4), model.field(f, 4));
             BENCH.due("field(" + f + ", 0)", x.field(f, 0), model.field(f, 0));
         }
-        for (int k = -1; k < 18; k++) {
+        for (int k = -1; k < 10; k++) {
             for (int what = -1; what < 4; what++) {
                 BENCH.due("trace(" + k + ", " + what + ")", x.trace(k, what), model.trace(k, what));
             }
         }
-        int k = up(70);
-        BENCH.due("trace(" + k + ", 2)", x.trace(k, 2), model.trace(k, 2));
     }
 }
