@@ -100,7 +100,7 @@ public final class FormTests {
             BENCH.due(c.getName() + " has at most twenty fields", fields <= 20, true);
             for (Method m : c.getDeclaredMethods()) {
                 BENCH.due(m + " has at most seven parameters", m.getParameterCount() <= 7, true);
-                if (c != ChipMap.class) {
+                if (Modifier.isPrivate(m.getModifiers())) {
                     BENCH.due(m + " has a name of its own", isFaceName(m.getName()), false);
                 }
             }
@@ -108,28 +108,25 @@ public final class FormTests {
     }
 
     private static void source(String text) {
-        BENCH.part("rules 2 to 10");
+        BENCH.part("rules 2 to 10 and 13");
         String code = text.replaceAll("(?s)/\\*.*?\\*/", "").replaceAll("//[^\n]*", "");
-        String[] banned = {"->", "::", "\\bsynchronized\\b", "\\bassert\\b", "\\bfinally\\b", "\\btry\\b",
-            "\\bcatch\\b", "\\bvar\\b", "Exact\\(", "\\bprotected\\b", "\\bpackage\\b", "\\bstatic \\{",
-            "System\\.(?!arraycopy)", "Arrays\\.(?!fill)", "Math\\.(?!min)",
-            "Integer\\.(?!bitCount|numberOfTrailingZeros|MAX_VALUE)", "\\bdouble\\b", "\\bfloat\\b",
-            "\\bwhile\\s*\\(true\\)", "for \\(;;\\)", "[^\\x00-\\x7f]"};
+        String[] banned = {"(?m)^(?!\\s*(case|default)\\b).*->", "::", "\\bsynchronized\\b", "\\bassert\\b",
+            "\\bfinally\\b", "\\btry\\s*\\(", "getMessage", "Exact\\(", "\\bpackage\\b", "\\bstatic\\s*\\{",
+            "\\bSystem\\.(?!arraycopy\\b)", "\\bArrays\\.(?!(fill|copyOf|copyOfRange)\\b)", "(?<!import )\\bjava\\.",
+            "\\bwhile\\s*\\(true\\)", "for\\s*\\(\\s*;\\s*;", "\" \\+", "\\+ \"", "[^\\x00-\\xff]"};
         for (String s : banned) {
             Matcher m = Pattern.compile(s).matcher(code);
             BENCH.due("no " + s, m.find(), false);
         }
-        Matcher imports = Pattern.compile("import ([\\w.]+);").matcher(code);
+        Matcher imports = Pattern.compile("\\bimport ([^;]+);").matcher(code);
         while (imports.find()) {
-            same("import", imports.group(1), "java.util.Arrays");
+            BENCH.due("import " + imports.group(1), imports.group(1)
+                .matches("java\\.util\\.(Arrays|ArrayList|List|Iterator|NoSuchElementException)"), true);
         }
-        Matcher thrown = Pattern.compile("throw new (\\w+)\\(\\)").matcher(code);
-        int throwing = 0;
-        while (thrown.find()) {
-            throwing++;
-        }
-        BENCH.due("throws", throwing, 3);
-        BENCH.due("throws of no other form", code.split("\\bthrow\\b", -1).length - 1, throwing);
+        String exceptions = "(IllegalState|IllegalArgument|IndexOutOfBounds|Arithmetic|UnsupportedOperation|NoSuchElement"
+            + "|Runtime)Exception";
+        Matcher thrown = Pattern.compile("\\bthrow\\b(?! new " + exceptions + "\\((\"[^\"]*\")?\\);)").matcher(code);
+        BENCH.due("throws of another form", thrown.find(), false);
         methodLengths(code);
     }
 
@@ -141,6 +138,6 @@ public final class FormTests {
             String body = method.group();
             BENCH.due("at most sixty lines: " + body.split("\n")[0].trim(), body.split("\n").length <= 60, true);
         }
-        BENCH.due("methods were found", methods > 60, true);
+        BENCH.due("methods were found", methods >= FACE.length, true);
     }
 }

@@ -31,6 +31,7 @@ public final class PromiseEdgeTests {
         steps();
         erases();
         checks();
+        leastStepTold();
         thousandSituations();
         founds();
         runs();
@@ -601,6 +602,28 @@ public final class PromiseEdgeTests {
         BENCH.due("OPERATIONS", x.state(0), 1);
     }
 
+    private static void leastStepTold() {
+        BENCH.part("promise 18, the least STEP told");
+        // PUTS of 1 to B break the rule; whichever way is gone first, the least of these is told.
+        int[][] scripts = {
+            {GO, 3, FETCH, 0, PUT, 1, PUT, 1},
+            {GO, 3, END, 0, PUT, 1, GO, 2, FETCH, 0, PUT, 1},
+            {GO, 5, GO, 4, END, 0, PUT, 1, PUT, 1, PUT, 1, GO, 3},
+            {GO, 2, GO, 6, GO, 5, PUT, 1, PUT, 1, PUT, 1, PUT, 1},
+            {GO, 4, GO, 3, GO, 5, PUT, 1, GO, 2, PUT, 1},
+            {FETCH, 0, GO, 3, GO, 1, END, 0, PUT, 1}};
+        int[] due = {3, 3, 5, 4, 4, 0};
+        for (int i = 0; i < scripts.length; i++) {
+            ChipMap x = BENCH.chip("@01{Aw1:0;Bw3:2;}A<B;");
+            for (int k = 0; k < scripts[i].length; k += 2) {
+                int kind = scripts[i][k];
+                x.step(kind, kind == PUT ? 1 : 0, scripts[i][k + 1]);
+            }
+            BENCH.due("script " + i, x.check(), due[i]);
+            BENCH.due("its RULE", x.found(1), due[i] == 0 ? 0 : 1);
+        }
+    }
+
     /**
      * 7 bits that may be set or not: 254 situations of 14 steps, and 128 states behind them. Then a
      * step for each of these, until a bit is set on all ways, and half as many are left.
@@ -649,6 +672,7 @@ public final class PromiseEdgeTests {
         x = manySituations("A&B=0;", 2);
         BENCH.due("1001, though a STEP is told", x.check(), -2);
         BENCH.due("found(0)", x.found(0), 1000);
+        BENCH.due("found(1)", x.found(1), 0);
     }
 
     private static void founds() {
