@@ -15,6 +15,7 @@ public final class PromiseEdgeTests {
         typedToTheEnd();
         compiled();
         compiledWithAFault();
+        compiledAnew();
         faults();
         fields();
         resets();
@@ -186,6 +187,24 @@ public final class PromiseEdgeTests {
             BENCH.due("is over", x.busRead(7), 5);
             BENCH.due("the tape is empty", Bench.compile(x, "@01{Aw0:0;}"), 1);
         }
+    }
+
+    private static void compiledAnew() {
+        BENCH.part("promise 3, nothing of an earlier tape is left");
+        String earlier = "@01{Aw0:0;Bw1:1;}@02{Cw0:0;Dw1:1;}A<B;A!B;";
+        String[] tapes = {"@01{Aw0:0;}A<B;", "@01{Aw0:0;Bw1:1;}A<C;", "@01{Aw0:0;}@03?C=1{Bw0:0;}",
+            "@01{Aw0:0;}@03?D=1{Bw0:0;}", "@01{Aw0:0;Bw1:1;}@02{Cw0:0;}D&A=1;"};
+        int[][] fault = {{4, 13}, {4, 19}, {3, 15}, {3, 15}, {4, 28}};
+        for (int i = 0; i < tapes.length; i++) {
+            ChipMap x = BENCH.chip(earlier);
+            BENCH.due("compile of " + tapes[i], Bench.compile(x, tapes[i]), Bench.ILLEGAL_ARGUMENT);
+            BENCH.due("fault(0)", x.fault(0), fault[i][0]);
+            BENCH.due("fault(1)", x.fault(1), fault[i][1]);
+        }
+        ChipMap x = BENCH.chip(earlier);
+        BENCH.due("the same OFFSETS, bits and names again", Bench.compile(x, earlier), 2);
+        BENCH.due("one of them alone", Bench.compile(x, "@02{Bw1:1;}"), 1);
+        BENCH.due("no RULES", x.state(4), 0);
     }
 
     private static void faults() {
