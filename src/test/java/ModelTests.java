@@ -5,6 +5,7 @@ public final class ModelTests {
     private static final Bench BENCH = new Bench();
     private static final Random RANDOM = new Random(20261115);
     private static final int[] checks = new int[3];
+    private static int mostRegisters;
     private static final int MOST_CALLS = 200;
 
     public static void main(String[] args) {
@@ -12,9 +13,11 @@ public final class ModelTests {
             faults(i);
         }
         for (int i = 0; i < 4000; i++) {
-            calls(i);
+            calls(i, i % 4 == 3);
         }
         System.out.println("checks: " + checks[0] + " told none, " + checks[1] + " a step, " + checks[2] + " too many");
+        BENCH.part("the runs");
+        BENCH.due("most registers of a map", mostRegisters, 16);
         BENCH.end();
     }
 
@@ -67,6 +70,51 @@ public final class ModelTests {
         return tape.toString();
     }
 
+    /** A map of up to 16 registers and 26 fields of all widths, as far as the tape goes. */
+    private static String wideTape() {
+        StringBuilder tape = new StringBuilder();
+        int registers = up(4) == 0 ? 16 : 1 + up(16);
+        int[] atReset = new int[26];
+        int names = 0;
+        String banks = "";
+        String writable = "";
+        String known = "";
+        for (int r = 0; r < registers && names < 26; r++) {
+            boolean banked = !banks.isEmpty() && up(3) != 0;
+            tape.append(String.format("@%02x", banked ? 0xf0 + up(8) : r * 15));
+            if (banked) {
+                char bank = banks.charAt(up(banks.length()));
+                tape.append('?').append(bank).append('=').append(Integer.toHexString(up(up(2) == 0 ? 2 : 4)));
+            }
+            tape.append('{');
+            int bit = up(3);
+            int most = Math.max(1, Math.min(8, 26 - names - (registers - r - 1)));
+            for (int i = 0; (i == 0 || i < most && up(3) != 0) && bit < 16; i++) {
+                int width = Math.min(16 - bit, 1 + up(up(4) == 0 ? 16 : 5));
+                char access = up(2) == 0 ? 'w' : "wroctsp".charAt(up(7));
+                char name = (char) ('A' + names);
+                banks += !banked && access == 'w' && width > 1 ? name : "";
+                writable += access != 'r' && access != 'c' ? name : "";
+                known += access == 'w' || access == 'o' ? name : "";
+                atReset[names] = up(3) == 0 ? up(1 << width) : 0;
+                tape.append(name).append(access).append(bit + width - 1).append(':').append(bit);
+                tape.append(atReset[names] != 0 ? "=" + Integer.toHexString(atReset[names]) : "").append(';');
+                names++;
+                bit += width + up(2);
+            }
+            tape.append('}');
+        }
+        int rules = known.isEmpty() ? 0 : up(13);
+        for (int i = 0; i < rules && tape.length() < 472; i++) {
+            char a = writable.charAt(up(writable.length()));
+            char b = writable.charAt(up(writable.length()));
+            char c = known.charAt(up(known.length()));
+            String value = Integer.toHexString(up(3) == 0 ? up(2) : atReset[c - 'A']);
+            tape.append(a).append(new String[] {"<" + b, "!" + b, "&" + c + "=" + value}[up(3)]).append(';');
+        }
+        return tape.toString();
+    }
+
     private static String changed(String tape) {
         StringBuilder text = new StringBuilder(tape);
         int changes = up(3);
@@ -101,13 +149,16 @@ public final class ModelTests {
         BENCH.due("fault(1)", x.fault(1), model.faultPlace);
     }
 
-    private static void calls(int i) {
-        String tape = tape(1 + up(5));
-        Model model = new Model(tape);
-        for (int tries = 0; tries < 100 && (model.faultKind != 0 || tape.length() > 480); tries++) {
-            tape = tape(1 + up(5));
+    private static void calls(int i, boolean wide) {
+        String tape;
+        Model model;
+        int tries = 0;
+        do {
+            tape = wide ? wideTape() : tape(1 + up(5));
             model = new Model(tape);
-        }
+            tries++;
+        } while (tries < 5000 && (model.faultKind != 0 || tape.length() > 480));
+        mostRegisters = Math.max(mostRegisters, model.registers.size());
         ChipMap x = BENCH.chip(tape);
         int before = BENCH.asked();
         // One turn makes at most some 90 calls; with the typing and the last look all stay under 512.
@@ -132,8 +183,13 @@ public final class ModelTests {
         return up(12) == 0 ? up(28) - 1 : up(model.fields.size());
     }
 
-    private static int someValue() {
-        return up(10) == 0 ? up(20) - 2 : up(4);
+    private static int someValue(Model model, int f) {
+        Model.Field field = model.field(f);
+        if (field == null || up(10) == 0) {
+            return up(20) - 2;
+        }
+        int all = 1 << (field.high - field.low + 1);
+        return up(5) == 0 ? all - up(3) : up(3) == 0 ? up(all) : up(4);
     }
 
     private static int someOffset(Model model) {
@@ -142,7 +198,7 @@ public final class ModelTests {
 
     private static void oneCall(ChipMap x, Model model) {
         int f = someField(model);
-        int v = someValue();
+        int v = someValue(model, f);
         switch (up(18)) {
             case 0:
                 int word = up(2) == 0 ? up(65536) : RANDOM.nextInt();
@@ -204,7 +260,7 @@ public final class ModelTests {
         int count = 1 + up(10);
         for (int i = 0; i < count; i++) {
             int f = someField(model);
-            int v = someValue();
+            int v = someValue(model, f);
             BENCH.due("join(" + f + ", " + v + ")", x.join(f, v), model.join(f, v));
         }
     }
@@ -212,7 +268,7 @@ public final class ModelTests {
     private static void someStep(ChipMap x, Model model) {
         int kind = up(20) == 0 ? up(8) - 2 : up(8) == 0 ? 2 : up(3) == 0 ? 1 : 0;
         int f = someField(model);
-        int v = kind == 2 ? up(45) - 2 : someValue();
+        int v = kind == 2 ? up(45) - 2 : someValue(model, f);
         BENCH.due("step", x.step(kind, f, v), model.step(kind, f, v));
     }
 
@@ -227,7 +283,7 @@ public final class ModelTests {
         for (int i = 0; i < count; i++) {
             int kind = up(30) == 0 ? 3 : up(3) == 0 ? 2 : up(6) == 0 ? 1 : 0;
             int f = someField(model);
-            int v = kind != 2 ? someValue() : wild ? up(41) : Math.max(0, Math.min(40, i + up(7) - 2));
+            int v = kind != 2 ? someValue(model, f) : wild ? up(41) : Math.max(0, Math.min(40, i + up(7) - 2));
             BENCH.due("step", x.step(kind, f, v), model.step(kind, f, v));
         }
         int answer = model.check();
@@ -244,7 +300,7 @@ public final class ModelTests {
             int next = model.script.size() + 2;
             BENCH.due("step", x.step(2, 0, next), model.step(2, 0, next));
             int f = someField(model);
-            int v = someValue();
+            int v = someValue(model, f);
             BENCH.due("step", x.step(0, f, v), model.step(0, f, v));
         }
         BENCH.due("step", x.step(2, 0, 0), model.step(2, 0, 0));
